@@ -44,6 +44,7 @@ public final class KnocksThroughRock {
   private static final int CODE_MASK = 255;
   private static final int MOST_LOUD = 99;
   private static final int MOST_DRAWN = 40;
+  private static final int ALL_BUT_SIGN = 0x7FFFFFFF;
   private static final int STRAY_BYTE = -1000;
   private static final int STRAY_STATEMENT = -2000;
 
@@ -764,7 +765,7 @@ public final class KnocksThroughRock {
   }
 
   private static int draw(int z, int bound) {
-    int high = (z & Integer.MAX_VALUE) / 65536;
+    int high = (z & ALL_BUT_SIGN) / 65536;
     return bound > 0 ? high % bound : 0;
   }
 
@@ -811,27 +812,22 @@ public final class KnocksThroughRock {
       super(figure);
     }
 
-    @Override
     int kind() {
       return GRANITE;
     }
 
-    @Override
     int slow() {
       return super.slow() - 2;
     }
 
-    @Override
     int loss() {
       return super.loss() - 1;
     }
 
-    @Override
     int toil() {
       return super.toil() * 2;
     }
 
-    @Override
     int worth() {
       return super.worth() + figure;
     }
@@ -842,27 +838,22 @@ public final class KnocksThroughRock {
       super(figure);
     }
 
-    @Override
     int kind() {
       return CLAY;
     }
 
-    @Override
     int slow() {
       return super.slow() + figure;
     }
 
-    @Override
     int loss() {
       return super.loss() + 3;
     }
 
-    @Override
     int toil() {
       return super.toil() - 2;
     }
 
-    @Override
     int worth() {
       return super.worth() - 1;
     }
@@ -873,32 +864,26 @@ public final class KnocksThroughRock {
       super(figure);
     }
 
-    @Override
     int kind() {
       return WATER;
     }
 
-    @Override
     int slow() {
       return super.slow() / 2;
     }
 
-    @Override
     int loss() {
       return Math.max(0, super.loss() - figure);
     }
 
-    @Override
     int toil() {
       return super.toil() * (figure + 1);
     }
 
-    @Override
     int worth() {
       return super.worth() * 2;
     }
 
-    @Override
     void fail() {
       if (figure != 0) {
         throw new UnsupportedOperationException("WATER broke in");
@@ -911,32 +896,26 @@ public final class KnocksThroughRock {
       super(figure);
     }
 
-    @Override
     int kind() {
       return VEIN;
     }
 
-    @Override
     int slow() {
       return super.slow() + 1;
     }
 
-    @Override
     int loss() {
       return 0;
     }
 
-    @Override
     int toil() {
       return super.toil() + figure;
     }
 
-    @Override
     int worth() {
       return super.worth() * (figure + 1);
     }
 
-    @Override
     void fail() {
       if (figure != 0) {
         throw new IllegalArgumentException("a VEIN fell");
@@ -949,17 +928,14 @@ public final class KnocksThroughRock {
       super(figure);
     }
 
-    @Override
     int kind() {
       return HOLLOW;
     }
 
-    @Override
     int slow() {
       return super.slow() - 3;
     }
 
-    @Override
     int toil() {
       return super.toil() - 4;
     }
@@ -970,27 +946,22 @@ public final class KnocksThroughRock {
       super(figure);
     }
 
-    @Override
     int kind() {
       return FAULT;
     }
 
-    @Override
     int slow() {
       return super.slow() * 2;
     }
 
-    @Override
     int loss() {
       return super.loss() + figure;
     }
 
-    @Override
     int toil() {
       return super.toil() + 4;
     }
 
-    @Override
     int worth() {
       return super.worth() + 5;
     }
@@ -1001,27 +972,22 @@ public final class KnocksThroughRock {
       super(figure);
     }
 
-    @Override
     int kind() {
       return DUG;
     }
 
-    @Override
     int loss() {
       return super.loss() - 1;
     }
 
-    @Override
     int toil() {
       return 0;
     }
 
-    @Override
     int worth() {
       return super.worth() - figure;
     }
 
-    @Override
     void fail() {
       // What is dug out already can't fall in.
     }

@@ -18,6 +18,7 @@ public final class CodesTest {
     Due.is("each has four", x.taken(240, 15, 4), 1);
     Due.is("each has four, e 3", x.taken(240, 15, 3), 0);
     Due.is("eight, e 8", x.taken(255, 0, 8), 1);
+    Due.is("eight the other way, e 8", x.taken(0, 255, 8), 1);
     Due.is("eight, e 7", x.taken(255, 0, 7), 0);
     Due.is("taken(-1, 0, 0)", x.taken(-1, 0, 0), -1);
     Due.is("taken(256, 0, 0)", x.taken(256, 0, 0), -1);

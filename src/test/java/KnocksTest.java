@@ -39,6 +39,7 @@ public final class KnocksTest {
     KnocksThroughRock oneTime = Due.mountain("k0110;k0530;");
     Due.is("GRANITE and WATER have one SLOW", oneTime.paths(0, 6), 2);
     Due.is("the least LOST of the ways of the least TIME", oneTime.loud(0, 6, 50), 47);
+    Due.is("though the other way is met first", Due.mountain("k0130;k0510;").loud(0, 6, 50), 47);
     KnocksThroughRock otherTime = Due.mountain("k0140;k0510;");
     Due.is("GRANITE is faster than a VEIN", otherTime.time(0, 6), 6);
     Due.is("by one way", otherTime.paths(0, 6), 1);
@@ -136,6 +137,7 @@ public final class KnocksTest {
     listen(x, 0, 1, 19);
     listen(x, 0, 2, 0, 0);
     listen(x, 1, 1, 1, 5);
+    listen(x, 1, 1, 0, 1, 5);
     listen(x, 0, 3, 4, 4, 3, 4);
     // All TIMES to 0 are 4 times the steps: 0; 1 5; 2 6 10; .. there are four cells three steps on.
     listen(x, 0, 4, 0, 1, 2, 3, 4, 5, 6, 7, 8, 9, 10, 11, 12, 13, 14, 15, 16, 17, 18, 19);

@@ -37,6 +37,9 @@ public final class MeetTest {
     Due.is("it is in mind alone", x.gang(0, 0) * 100 + x.gang(1, 0), 3);
     x.dig(1, 3);
     Due.is("hours so far do not count", x.soon(), 0);
+    Due.is("in a corner", Due.mountain("g001;g110;k0639;").soon(), 5);
+    Due.is("one behind the other, up", Due.mountain("g015;g100;k0139;k0639;k1139;k1639;").soon(), 5);
+    Due.is("one behind the other, down", Due.mountain("g000;g115;k0139;k0639;k1139;k1639;").soon(), 5);
     Due.is("the greater of the two, not both", Due.mountain("g000;g104;k0110;k0210;k0310;").soon(), 15);
   }
 

@@ -135,6 +135,9 @@ public final class MountainsTest {
     Due.is("with a fault nothing comes: gang", x.gang(0, 0), 0);
     Due.is("with a fault nothing comes: hours", x.gang(0, 1), 0);
     Due.is("with a fault nothing comes: kinds", x.count(0), 20);
+    Due.reads(x, "d02;", 1);
+    Due.is("nor later", x.gang(0, 0) * 100 + x.gang(0, 1), 505);
+    Due.is("what is dug alone is not ROCK", x.count(0), 19);
   }
 
   private static void refusesToRead() {
